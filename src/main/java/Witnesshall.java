@@ -37,10 +37,10 @@ public final class Witnesshall {
     private int chainSize;
     private int refused;
 
-    private final Reckoner reckoner = new Reckoner();
-    private final Archive archive = new Archive();
-    private final Checker checker = new Checker(reckoner, archive);
-    private final Clerk clerk = new Clerk(reckoner, archive, checker);
+    private final Clerk clerk = new Clerk();
+    private final Checker checker = clerk.checker;
+    private final Archive archive = clerk.archive;
+    private final Reckoner reckoner = clerk.reckoner;
     private final Journal journal = new Journal();
     private final Scribe scribe = new Scribe();
     private final Big one = new Big(Big.WIDE);
@@ -330,12 +330,18 @@ public final class Witnesshall {
         if (held != NONE) {
             return held;
         }
-        int before = archive.size;
-        int told = clerk.decideFactors(kind, n.toInt());
-        if (told >= 0) {
-            told = clerk.seekNew(kind, n);
+        int value = n.toInt();
+        if (kind >= FULL && kind <= PLUS && !Sieve.isSifted(value)) {
+            return NONE;
         }
-        return settleCall(told, before);
+        int before = archive.size;
+        int told = 0;
+        int factor = Sieve.ruleFactor(kind, value, 0);
+        for (int i = 0; i < Sieve.MOST_FACTORS && factor > 0 && told >= 0; i++) {
+            told = clerk.decideOne(factor);
+            factor = Sieve.ruleFactor(kind, value, factor);
+        }
+        return settleCall(told < 0 ? told : clerk.seekNew(kind, n), before);
     }
 
     public int decide(int value) throws IllegalArgumentException, IllegalStateException {
@@ -635,7 +641,8 @@ public final class Witnesshall {
         needSpot(paper, spot);
         needArgument(by >= -3 && by <= 3);
         Sheet draft = clerk.draft;
-        draft.copySheet(archive.at(paper).sheet);
+        draft.kind = archive.at(paper).sheet.kind;
+        draft.row.copyRow(archive.at(paper).sheet.row);
         other.setTo(by);
         draft.row.at(spot).sum(draft.row.at(spot), other, false);
         return checker.faultOf(draft);
@@ -705,7 +712,7 @@ public final class Witnesshall {
                 return archive.tally(Paper.LOOSE);
             case 4:
             case 5:
-                return archive.survey(0, Integer.MAX_VALUE, what - 4);
+                return archive.survey(0, Big.FARTHEST, what - 4);
             case 6:
                 return chainSize;
             case 7:
@@ -794,6 +801,7 @@ public final class Witnesshall {
         private static final int WIDE = 10;
         private static final int STEP = 30;
         private static final int MASK = (1 << STEP) - 1;
+        private static final int FARTHEST = 2147483647;
 
         private final int[] digit;
         private int size;
@@ -843,14 +851,14 @@ public final class Witnesshall {
         /** The number, if it has one digit; otherwise one that is farther out than all those. */
         int toInt() {
             if (size > 1) {
-                return isNegative ? Integer.MIN_VALUE : Integer.MAX_VALUE;
+                return isNegative ? -FARTHEST : FARTHEST;
             }
             int value = size == 0 ? 0 : digit[0];
             return isNegative ? -value : value;
         }
 
-        boolean is(int value) {
-            return toInt() == value;
+        boolean is(int small) {
+            return size == 1 && digit[0] == small && !isNegative;
         }
 
         boolean isFit() {
@@ -868,9 +876,22 @@ public final class Witnesshall {
             return a.isNegative ? -found : found;
         }
 
+        /** How many bits a digit has. */
+        private static int bitsOf(int digit) {
+            int bits = 0;
+            int rest = digit;
+            for (int half = 16; half > 0; half /= 2) {
+                if (rest >> half != 0) {
+                    rest >>= half;
+                    bits += half;
+                }
+            }
+            return bits + rest;
+        }
+
         /** How many bits it has without its sign. */
         int bits() {
-            return size == 0 ? 0 : size * STEP + 2 - Integer.numberOfLeadingZeros(digit[size - 1]);
+            return size == 0 ? 0 : (size - 1) * STEP + bitsOf(digit[size - 1]);
         }
 
         /** LENGTH. */
@@ -883,7 +904,7 @@ public final class Witnesshall {
         int halves() {
             for (int i = 0; i < size; i++) {
                 if (digit[i] != 0) {
-                    return i * STEP + Integer.numberOfTrailingZeros(digit[i]);
+                    return i * STEP + bitsOf(digit[i] & -digit[i]) - 1;
                 }
             }
             return NONE;
@@ -999,7 +1020,7 @@ public final class Witnesshall {
                 return;
             }
             // the leading digits are read as if both were shifted till the highest bit of m is the highest of a digit
-            int up = Integer.numberOfLeadingZeros(m.digit[n - 1]) - 2;
+            int up = STEP - bitsOf(m.digit[n - 1]);
             int down = STEP - up;
             long top = ((long) m.digit[n - 1] << STEP | (n > 1 ? m.digit[n - 2] : 0)) << up
                     | (n > 2 ? m.digit[n - 3] : 0) >> down;
@@ -1085,9 +1106,9 @@ public final class Witnesshall {
         }
 
         void copyRow(Row from) {
-            size = 0;
-            for (int i = 0; i < from.size && i < from.numbers.length; i++) {
-                append(from.numbers[i]);
+            size = from.size < numbers.length ? from.size : numbers.length;
+            for (int i = 0; i < size && i < from.numbers.length; i++) {
+                numbers[i].copy(from.numbers[i]);
             }
         }
     }
@@ -1109,11 +1130,6 @@ public final class Witnesshall {
             kind = newKind;
             row.size = 0;
             row.appendValue(n);
-        }
-
-        void copySheet(Sheet from) {
-            kind = from.kind;
-            row.copyRow(from.row);
         }
 
         boolean isYes() {
@@ -1181,7 +1197,8 @@ public final class Witnesshall {
         private int borneOut;
 
         void fill(Sheet from) {
-            sheet.copySheet(from);
+            sheet.kind = from.kind;
+            sheet.row.copyRow(from.row);
             isHeld = true;
             textLength = 0;
             borneOut = 0;
@@ -1395,7 +1412,8 @@ public final class Witnesshall {
                 return false;
             }
             for (int n = low < 2 ? 3 : low + 1 | 1; n < high; n += 2) {
-                if (verdictOf(n) != 0) {
+                probe.setTo(n);
+                if (find(probe, NO, 0) == NONE) {
                     return false;
                 }
             }
@@ -1491,6 +1509,7 @@ public final class Witnesshall {
     /** Trial by small divisors. */
     private static final class Sieve {
         private static final int FURTHEST = 46000;
+        private static final int MOST_FACTORS = 31;
 
         static boolean isSifted(int n) {
             for (int d = 2; d < FURTHEST && d * d <= n; d += d == 2 ? 1 : 2) {
@@ -1508,7 +1527,7 @@ public final class Witnesshall {
                 if (rest % d == 0 && d > after) {
                     return d;
                 }
-                for (int i = 0; i < 31 && rest % d == 0; i++) {
+                for (int i = 0; i < MOST_FACTORS && rest % d == 0; i++) {
                     rest /= d;
                 }
             }
@@ -1517,28 +1536,31 @@ public final class Witnesshall {
 
         private static int without(int x, int factor) {
             int rest = x;
-            for (int i = 0; i < 31 && factor > 1 && rest % factor == 0; i++) {
+            for (int i = 0; i < MOST_FACTORS && factor > 1 && rest % factor == 0; i++) {
                 rest /= factor;
             }
             return rest;
         }
 
-        /** The number whose FACTORS the KIND hangs n on. */
-        static int whole(int kind, int n) {
-            return kind == CARMICHAEL ? n : kind == PLUS ? n + 1 : n - 1;
-        }
-
-        /** The least of the FACTORS that the RULE of the KIND asks for. */
-        static int lowestFactor(int kind, int n) {
-            int part = whole(kind, n);
-            int factor = nextFactor(part, 1);
-            for (int i = 0; i < 10 && (kind == PART || kind == PLUS); i++) {
+        /** Of the FACTORS that the RULE of the KIND asks for, for n, the least that is greater than after; 0 if none is. */
+        static int ruleFactor(int kind, int n, int after) {
+            if (kind < CARMICHAEL || kind > PLUS || kind == SMALL) {
+                return 0;
+            }
+            int whole = kind == CARMICHAEL ? n : kind == PLUS ? n + 1 : n - 1;
+            int factor = nextFactor(whole, after);
+            if (after > 0 || kind == CARMICHAEL || kind == FULL) {
+                return factor;
+            }
+            // the least ones are left out as long as END is content without them
+            int part = whole;
+            for (int i = 0; i < MOST_FACTORS && factor > 0; i++) {
                 part = without(part, factor);
                 long side = kind == PART ? part + 1L : part - 1L;
                 if (side * side <= n) {
                     return factor;
                 }
-                factor = nextFactor(part, factor);
+                factor = nextFactor(whole, factor);
             }
             return factor;
         }
@@ -1735,8 +1757,10 @@ public final class Witnesshall {
 
     /** Looks SHEETS over. */
     private static final class Checker {
-        private final Reckoner reckoner;
-        private final Archive archive;
+        private static final int MOST_PAIR = 100;
+
+        private final Reckoner reckoner = new Reckoner();
+        private final Archive archive = new Archive();
         private final Big one = new Big(Big.WIDE);
         private final Big less = new Big(Big.WIDE);
         private final Big more = new Big(Big.WIDE);
@@ -1744,9 +1768,7 @@ public final class Witnesshall {
         private final Big y = new Big(Big.WIDE);
         private final Big rest = new Big(Big.WIDE);
 
-        Checker(Reckoner reckoner, Archive archive) {
-            this.reckoner = reckoner;
-            this.archive = archive;
+        Checker() {
             one.setTo(1);
         }
 
@@ -1759,8 +1781,10 @@ public final class Witnesshall {
             less.sum(n, one, true);
             more.sum(n, one, false);
             int factors = sheet.firstFactor();
+            boolean isPair = sheet.kind == LUCAS || sheet.kind == PLUS;
             for (int spot = 1; spot < sheet.row.size; spot++) {
-                boolean isSo = spot < factors ? headHolds(sheet, spot) : factorHolds(sheet, spot);
+                boolean isSo = spot >= factors ? factorHolds(sheet, spot)
+                        : spot == 1 ? headHolds(sheet) : spot == 2 && isPair && pairHolds(sheet);
                 if (!isSo) {
                     return spot;
                 }
@@ -1793,25 +1817,10 @@ public final class Witnesshall {
             return value.toInt() >= 2 && Big.order(value, end) < 0;
         }
 
-        private static boolean isFirstOfPair(Big value) {
-            return value.toInt() >= 1 && value.toInt() <= 100;
-        }
-
-        private static boolean isSecondOfPair(Big value) {
-            return value.toInt() >= -100 && value.toInt() <= 100 && value.toInt() != 0;
-        }
-
-        /** Whether all is so that is told of a SPOT of ROW that is no q. */
-        private boolean headHolds(Sheet sheet, int spot) {
+        /** Whether all is so that is told of SPOT 1, where that is no q. */
+        private boolean headHolds(Sheet sheet) {
             Big n = sheet.row.at(0);
-            Big told = sheet.row.at(spot);
-            boolean isPair = sheet.kind == LUCAS || sheet.kind == PLUS;
-            if (spot == 2 && isPair) {
-                return isSecondOfPair(told) && pairHolds(sheet);
-            }
-            if (spot > 1) {
-                return false;
-            }
+            Big told = sheet.row.at(1);
             switch (sheet.kind) {
                 case DIVISOR:
                     x.copy(n);
@@ -1832,16 +1841,22 @@ public final class Witnesshall {
                     x.times(told, told);
                     x.divide(n, null);
                     return x.is(1);
+                case LUCAS:
+                case PLUS:
+                    return told.toInt() >= 1 && told.toInt() <= MOST_PAIR;
                 default:
-                    return isPair && isFirstOfPair(told);
+                    return false;
             }
         }
 
-        /** Whether all is so that is told of P and Q together. */
+        /** Whether all is so that is told of SPOT 2, where that is Q; SPOT 1 has been looked at. */
         private boolean pairHolds(Sheet sheet) {
             Big n = sheet.row.at(0);
             int p = sheet.row.at(1).toInt();
             int q = sheet.row.at(2).toInt();
+            if (q == 0 || q < -MOST_PAIR || q > MOST_PAIR) {
+                return false;
+            }
             int d = p * p - 4 * q;
             if (sheet.kind == LUCAS) {
                 y.copy(less);
@@ -1955,7 +1970,12 @@ public final class Witnesshall {
             Big whole = sheet.kind == PLUS ? more : less;
             rest.copy(whole);
             for (int spot = sheet.firstFactor(); spot < sheet.row.size; spot++) {
-                strip(sheet.row.at(spot));
+                x.setTo(0);
+                for (int i = 0; i < 200 && x.sign() == 0; i++) {
+                    x.copy(rest);
+                    x.divide(sheet.row.at(spot), y);
+                    rest.copy(x.sign() == 0 ? y : rest);
+                }
             }
             if (sheet.kind == FULL) {
                 return rest.is(1);
@@ -1967,18 +1987,6 @@ public final class Witnesshall {
             rest.times(x, y);
             return Big.order(rest, sheet.row.at(0)) > 0;
         }
-
-        /** Divides rest by q as often as it goes. */
-        private void strip(Big q) {
-            for (int i = 0; i < 200; i++) {
-                x.copy(rest);
-                x.divide(q, y);
-                if (x.sign() != 0) {
-                    return;
-                }
-                rest.copy(y);
-            }
-        }
     }
 
     /** Writes SHEETS by RULE, and DECIDES. */
@@ -1987,21 +1995,15 @@ public final class Witnesshall {
         private static final int UNSEEN = -1;
         private static final int LAST_SMALL = 999;
 
-        private final Reckoner reckoner;
-        private final Archive archive;
-        private final Checker checker;
+        private final Checker checker = new Checker();
+        private final Archive archive = checker.archive;
+        private final Reckoner reckoner = checker.reckoner;
         private final Sheet draft = new Sheet();
         private final Big number = new Big(Big.WIDE);
         private final Big twice = new Big(Big.WIDE);
         private final Big side = new Big(Big.WIDE);
         private final int[] pending = new int[MOST_PENDING];
         private final int[] coming = new int[MOST_PENDING];
-
-        Clerk(Reckoner reckoner, Archive archive, Checker checker) {
-            this.reckoner = reckoner;
-            this.archive = archive;
-            this.checker = checker;
-        }
 
         /** Writes the FINDING of the last ROUND as a SHEET. */
         void writeFinding(int kind, Big n) {
@@ -2015,32 +2017,39 @@ public final class Witnesshall {
             int level = 0;
             pending[0] = asked;
             coming[0] = UNSEEN;
-            for (int i = 0; i < 100000 && level >= 0; i++) {
+            for (int i = 0; i < 100000 && level >= 0 && level < MOST_PENDING; i++) {
                 int n = pending[level];
                 int factor = coming[level];
                 if (factor > 0) {
-                    // a NUMBER waits at its level till the FACTORS below it, rising, are DECIDED
-                    coming[level] = Sieve.nextFactor(n - 1, factor);
+                    // n waits here till the FACTORS of n - 1, rising, are DECIDED
+                    coming[level] = Sieve.ruleFactor(FULL, n, factor);
                     level++;
-                    if (level >= MOST_PENDING) {
-                        return NONE;
+                    if (level < MOST_PENDING) {
+                        pending[level] = factor;
+                        coming[level] = UNSEEN;
                     }
-                    pending[level] = factor;
-                    coming[level] = UNSEEN;
                     continue;
                 }
-                told = factor == UNSEEN ? decideAtOnce(n) : writeFull(n);
+                if (factor == UNSEEN) {
+                    told = decideAtOnce(n);
+                    coming[level] = told == NONE ? Sieve.ruleFactor(FULL, n, 0) : 0;
+                } else {
+                    number.setTo(n);
+                    told = archive.find(number, Archive.HELD, FULL);
+                    if (told == NONE) {
+                        if (!writeUnit(FULL, n)) {
+                            return NONE;
+                        }
+                        told = WRITTEN;
+                    }
+                }
                 if (told == WRITTEN) {
                     told = archive.add(draft);
                 }
-                if (told == NO_ROOM || told == NONE && factor != UNSEEN) {
-                    return told;
+                if (told == NO_ROOM) {
+                    return NO_ROOM;
                 }
-                if (told == NONE) {
-                    coming[level] = Sieve.nextFactor(n - 1, 1);
-                } else {
-                    level--;
-                }
+                level -= told == NONE ? 0 : 1;
             }
             return told;
         }
@@ -2069,33 +2078,6 @@ public final class Witnesshall {
                 }
             }
             return NONE;
-        }
-
-        /** The last step of DECIDING n, a SEEK of KIND 8: a HELD PAPER, or WRITTEN, or NONE. */
-        private int writeFull(int n) {
-            number.setTo(n);
-            int held = archive.find(number, Archive.HELD, FULL);
-            return held != NONE ? held : writeUnit(FULL, n) ? WRITTEN : NONE;
-        }
-
-        /** DECIDES what the RULE of the KIND asks for n; tells if there is no room, or NONE if the RULE is not for n. */
-        int decideFactors(int kind, int n) {
-            if (kind < CARMICHAEL || kind > PLUS || kind == SMALL) {
-                return 0;
-            }
-            if (kind != CARMICHAEL && !Sieve.isSifted(n)) {
-                return NONE;
-            }
-            int whole = Sieve.whole(kind, n);
-            int factor = Sieve.lowestFactor(kind, n);
-            for (int i = 0; i < 31 && factor > 0; i++) {
-                int told = decideOne(factor);
-                if (told < 0) {
-                    return told;
-                }
-                factor = Sieve.nextFactor(whole, factor);
-            }
-            return 0;
         }
 
         /** SEEKS when there is no HELD PAPER and all FACTORS are DECIDED: the index of the new PAPER, NONE, or no room. */
@@ -2192,11 +2174,10 @@ public final class Witnesshall {
 
         /** Writes the FACTORS that the RULE of the KIND asks for at the end of the draft. */
         private void writeFactors(int kind, int n) {
-            int whole = Sieve.whole(kind, n);
-            int factor = Sieve.lowestFactor(kind, n);
-            for (int i = 0; i < 31 && factor > 0; i++) {
+            int factor = Sieve.ruleFactor(kind, n, 0);
+            for (int i = 0; i < Sieve.MOST_FACTORS && factor > 0; i++) {
                 draft.row.appendValue(factor);
-                factor = Sieve.nextFactor(whole, factor);
+                factor = Sieve.ruleFactor(kind, n, factor);
             }
         }
 
