@@ -398,8 +398,39 @@ public final class AskPromisesTest extends Tests {
         is(x.under(5), "2 7 79 113 6329");
         x.put(0, 561);
         is(x.under(x.seek(6, 0)), "3 11 17");
+        underLate();
         noIndex(x, () -> x.under(-1));
         noIndex(x, () -> x.under(x.count(0)));
+    }
+
+    /** What hangs on papers with high numbers. */
+    private void underLate() {
+        Witnesshall x = new Witnesshall();
+        int[] primes = {607, 613, 617, 619, 631, 641};
+        int[] at = {63, 64, 65, 127, 128, 147};
+        for (int i = 0; i < primes.length; i++) {
+            for (int n = 2; x.count(0) < at[i]; n++) {
+                if (!x.sifted(n)) {
+                    x.decide(n);
+                }
+            }
+            is(x.decide(primes[i]), at[i]);
+        }
+        for (int i = 0; i < primes.length; i++) {
+            int k = 1;
+            while (!x.sifted(2 * k * primes[i] + 1)) {
+                k++;
+            }
+            x.put(3, 2 * k * primes[i] + 1);
+            is(x.seek(9, 3), 148);
+            is(x.under(148), String.valueOf(primes[i]));
+            is(x.ofPaper(148, 5), 1);
+            x.put(4, primes[i]);
+            is(x.hangs(148, 4), true);
+            x.put(4, primes[(i + 1) % primes.length]);
+            is(x.hangs(148, 4), false);
+            x.undo();
+        }
     }
 
     private void near() {

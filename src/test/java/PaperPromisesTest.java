@@ -432,9 +432,13 @@ public final class PaperPromisesTest extends Tests {
         noState(full, () -> full.file());
     }
 
-    private static String sought(Witnesshall x, int kind, int n) {
+    private static int soughtAt(Witnesshall x, int kind, int n) {
         x.put(0, n);
-        int paper = x.seek(kind, 0);
+        return x.seek(kind, 0);
+    }
+
+    private static String sought(Witnesshall x, int kind, int n) {
+        int paper = soughtAt(x, kind, n);
         return paper < 0 ? "" : x.paper(paper);
     }
 
@@ -451,11 +455,15 @@ public final class PaperPromisesTest extends Tests {
         is(sought(x, 1, 341), "341 no power 3");
         is(sought(x, 1, 9), "9 no power 2");
         is(sought(x, 1, 11), "");
+        is(sought(x, 1, 294409), "294409 no power 37");
+        is(sought(x, 1, 252601), "");
         is(sought(x, 1, 8), "");
         is(sought(x, 2, 561), "561 no root 67");
         is(sought(x, 2, 341), "341 no root 32");
         is(sought(x, 2, 15), "15 no root 4");
         is(sought(x, 2, 9), "");
+        is(x.paper(soughtAt(x, 2, 123)), "123 no root 40");
+        is(sought(x, 2, 609), "");
         is(sought(x, 3, 561), "");
         is(sought(x, 3, 9), "");
         is(sought(x, 3, 85), "85 no lucas 1 -3");
@@ -464,6 +472,8 @@ public final class PaperPromisesTest extends Tests {
         is(sought(x, 3, 1111), "1111 no lucas 3 -2");
         is(sought(x, 3, 15), "");
         is(sought(x, 3, 11), "");
+        is(sought(x, 3, 175), "");
+        is(sought(x, 3, 1687), "");
         is(sought(x, 4, 2047), "2047 no squares");
         is(sought(x, 4, 7), "");
         is(sought(x, 4, 9), "");
@@ -520,6 +530,9 @@ public final class PaperPromisesTest extends Tests {
         is(sought(x, 9, 21), "");
         is(sought(x, 10, 5), "5 yes plus 1 -3 2 3");
         is(sought(x, 10, 127), "127 yes plus 1 -1 2");
+        is(sought(x, 10, 2753), "2753 yes plus 2 6 3 17");
+        is(sought(x, 10, 6911), "6911 yes plus 2 -6 2 3");
+        is(sought(x, 10, 99839), "99839 yes plus 5 -3 2 3 5 13");
         is(sought(x, 10, 9), "");
         is(sought(x, 11, 127), "127 yes squares");
         is(sought(x, 11, 2047), "");
@@ -576,6 +589,11 @@ public final class PaperPromisesTest extends Tests {
         is(x.seek(9, 0), NONE);
         is(x.seek(10, 0), NONE);
         is(x.digest(), before);
+        x.put(0, 53759);
+        before = x.digest();
+        is(x.seek(10, 0), NONE);
+        is(x.digest(), before);
+        is(x.seek(8, 0) > 0, true);
     }
 
     private void seekWithoutRoom() {
@@ -596,6 +614,10 @@ public final class PaperPromisesTest extends Tests {
         x.put(0, 25);
         noState(x, () -> x.seek(1, 0));
         is(x.seek(6, 0), NONE);
+        x.put(0, 53759);
+        is(x.seek(10, 0), NONE);
+        x.withdraw(5);
+        noState(x, () -> x.seek(10, 0));
         x.put(0, 911);
         noState(x, () -> x.seek(6, 0));
         is(x.count(0), 150);
