@@ -187,14 +187,10 @@ public final class Witnesshall {
             return NOTHING;
         }
         result.copy(desk.at(a));
-        other.copy(exponent);
-        if (exponent.sign() < 0) {
-            if (!reckoner.inverseMod(result, result, modulus)) {
-                return NOTHING;
-            }
-            other.negate();
+        if (exponent.sign() < 0 && !reckoner.inverseMod(result, result, modulus)) {
+            return NOTHING;
         }
-        reckoner.powMod(result, result, other, modulus);
+        reckoner.powMod(result, result, exponent, modulus);
         return lay(place, result);
     }
 
@@ -838,10 +834,6 @@ public final class Witnesshall {
             for (int i = 0; i < size; i++) {
                 digit[i] = from.digit[i];
             }
-        }
-
-        void negate() {
-            isNegative = size > 0 && !isNegative;
         }
 
         int sign() {
@@ -1643,7 +1635,7 @@ public final class Witnesshall {
             return true;
         }
 
-        /** Makes out the POWER of base to exponent (not below 0) by m (above 0). */
+        /** Makes out the POWER of base to exponent, taken without its sign, by m (above 0). */
         void powMod(Big out, Big base, Big exponent, Big m) {
             Big now = r2;
             Big then = r3;

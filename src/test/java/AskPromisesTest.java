@@ -463,6 +463,12 @@ public final class AskPromisesTest extends Tests {
         x.withdraw(x.decide(115));
         is(x.near(113, true), NONE);
         is(x.near(115, true), 127);
+        Witnesshall five = new Witnesshall();
+        five.decide(5);
+        five.decide(4);
+        is(five.near(0, true), NONE);
+        is(five.near(1, true), NONE);
+        is(five.near(3, true), 5);
         farNear();
         noArgument(x, () -> x.near(-1, true));
         noArgument(x, () -> x.near(1000001, false));
@@ -524,6 +530,7 @@ public final class AskPromisesTest extends Tests {
         is(x.span(0, 1000000, 0), 39);
         is(x.span(3, 40, 0), 38);
         is(x.span(2, 39, 0), 38);
+        is(x.span(1000000, 1000000, 0), 0);
         is(x.span(2, 13, 1), 6);
         is(x.span(2, 12, 1), 5);
         is(x.span(3, 13, 1), 5);

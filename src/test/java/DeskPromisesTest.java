@@ -1,4 +1,6 @@
 import java.math.BigInteger;
+import java.util.ArrayList;
+import java.util.List;
 
 /** Promises 1 to 11 and 29 to 32: numbers on the desk. */
 public final class DeskPromisesTest extends Tests {
@@ -144,6 +146,7 @@ public final class DeskPromisesTest extends Tests {
         is(x.work(1, 2, 1, 1), 5);
         lies(x, 1, 25);
         bigWork(x);
+        edgeWork(new Witnesshall());
         noArgument(x, () -> x.work(0, -1, 0, 0));
         noArgument(x, () -> x.work(0, 7, 0, 0));
         noIndex(x, () -> x.work(10, 7, 0, 0));
@@ -182,6 +185,41 @@ public final class DeskPromisesTest extends Tests {
         is(x.work(3, 4, 1, 5), 0);
         is(x.work(3, 0, 1, 4), 130);
         is(x.work(3, 6, 1, 2), 66);
+    }
+
+    /** Numbers whose bits are nearly all the same, where a digit of a quotient is easily guessed one too great. */
+    private void edgeWork(Witnesshall x) {
+        List<BigInteger> numbers = new ArrayList<>();
+        for (int a : new int[] {29, 30, 59, 60, 70, 89, 90, 120, 129}) {
+            for (int b : new int[] {0, 11, 29, 30, 31, 60, 61, 89}) {
+                if (b < a) {
+                    BigInteger high = TWO.pow(a);
+                    numbers.add(high.add(TWO.pow(b)).subtract(BigInteger.ONE));
+                    numbers.add(high.subtract(TWO.pow(b)));
+                    numbers.add(high.multiply(BigInteger.valueOf(5)).shiftRight(a > 100 ? 5 : 0).negate());
+                }
+            }
+        }
+        for (BigInteger a : numbers) {
+            lay(x, 0, a);
+            for (BigInteger b : numbers) {
+                lay(x, 1, b);
+                x.work(2, 3, 0, 1);
+                x.work(3, 4, 0, 1);
+                if (!x.desk(2, 10).equals(a.divide(b).toString()) || !x.desk(3, 10).equals(a.remainder(b).toString())) {
+                    is(x.desk(2, 10) + " " + x.desk(3, 10), a.divide(b) + " " + a.remainder(b));
+                }
+                x.work(3, 6, 0, 1);
+                if (!x.desk(3, 10).equals(a.gcd(b).toString())) {
+                    is(x.desk(3, 10), a.gcd(b).toString());
+                }
+                BigInteger product = a.multiply(b);
+                if (Reference.length(product) <= 130) {
+                    x.work(3, 2, 0, 1);
+                    is(x.desk(3, 10), product.toString());
+                }
+            }
+        }
     }
 
     private void root() {

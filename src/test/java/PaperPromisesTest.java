@@ -162,9 +162,16 @@ public final class PaperPromisesTest extends Tests {
             }
         }
         is(found >= 9, true);
-        x.put(0, 35);
-        is(faultOf(x, 3, 100, 100), (int) lucasDue(35, 100, 100));
-        is(faultOf(x, 3, 100, -100), (int) lucasDue(35, 100, -100));
+        for (int kind : new int[] {3, 10}) {
+            for (int q : new int[] {100, -100}) {
+                x.put(0, 11);
+                is(faultOf(x, kind, 99, 100), 3);
+                x.put(0, 7);
+                is(faultOf(x, kind, 100, q), 3);
+                is(faultOf(x, kind, 101, q), 1);
+                is(faultOf(x, kind, 100, q + (q > 0 ? 1 : -1)), 2);
+            }
+        }
     }
 
     private static long lucasDue(int n, int p, int q) {
@@ -179,14 +186,7 @@ public final class PaperPromisesTest extends Tests {
         if (power != n - 1) {
             return 2;
         }
-        long u = 0;
-        long after = 1;
-        for (int i = 0; i <= n; i++) {
-            long then = Math.floorMod(p * after - q * u, (long) n);
-            u = after;
-            after = then;
-        }
-        return u == 0 ? 3 : NONE;
+        return lucasAt(p, q, n + 1, n) == 0 ? 3 : NONE;
     }
 
     private void carmichaelFaults(Witnesshall x) {
@@ -338,6 +338,45 @@ public final class PaperPromisesTest extends Tests {
         is(faultOf(x, 10, 1, -4, 2), NONE);
         x.put(0, 4);
         is(faultOf(x, 10, 1, 1), 0);
+        for (int n : new int[] {5, 7, 11, 13, 17, 19, 23, 25, 29, 35}) {
+            x.put(0, n);
+            for (int p = 1; p <= 6; p++) {
+                for (int q = -6; q <= 6; q++) {
+                    for (int factor = 2; factor <= 3; factor++) {
+                        is(faultOf(x, 10, p, q, factor), plusDue(n, p, q, factor));
+                    }
+                }
+            }
+        }
+    }
+
+    private static long gcd(long a, long b) {
+        return b == 0 ? Math.abs(a) : gcd(b, a % b);
+    }
+
+    private static long lucasAt(int p, int q, int k, int n) {
+        long u = 0;
+        long after = 1;
+        for (int i = 0; i < k; i++) {
+            long then = Math.floorMod(p * after - q * u, (long) n);
+            u = after;
+            after = then;
+        }
+        return u;
+    }
+
+    private static int plusDue(int n, int p, int q, int factor) {
+        if (q == 0 || gcd(n, q * (p * p - 4 * q)) != 1 || lucasAt(p, q, n + 1, n) != 0) {
+            return 2;
+        }
+        if ((n + 1) % factor != 0 || gcd(n, lucasAt(p, q, (n + 1) / factor, n)) != 1) {
+            return 3;
+        }
+        int f = 1;
+        while ((n + 1) % (f * factor) == 0) {
+            f *= factor;
+        }
+        return (f - 1) * (f - 1) > n ? NONE : 4;
     }
 
     private void write() {
@@ -979,6 +1018,32 @@ public final class PaperPromisesTest extends Tests {
         z.begin(0);
         is(z.grow(0, true), 1);
         is(z.link(0, 1), "7");
+        growFar();
+    }
+
+    private static Witnesshall begun(int prime) {
+        Witnesshall x = new Witnesshall();
+        x.decide(prime);
+        x.put(0, prime);
+        x.begin(0);
+        return x;
+    }
+
+    /** The last step that is tried, and the longest number. */
+    private void growFar() {
+        is(begun(729271).grow(0, false), 60);
+        is(begun(374909).grow(0, false), NONE);
+        Witnesshall x = begun(131101);
+        is(x.grow(0, true), 5);
+        is(x.grow(0, true), 54);
+        is(x.grow(0, true), 9);
+        is(x.ofChain(0, 2), 130);
+        is(x.grow(0, false), NONE);
+        Witnesshall y = begun(143053);
+        is(y.grow(0, true), 8);
+        is(y.grow(0, true), 16);
+        is(y.grow(0, true), NONE);
+        is(y.ofChain(0, 2), 66);
     }
 
     private void growWithoutRoom() {
