@@ -1,4 +1,4 @@
-/** What the promises' tests check with: they count, and tell what is not as due. */
+/** What the tests check with: they count, and tell what is not as due. */
 abstract class Tests {
     interface Call {
         Object answer();
@@ -8,12 +8,16 @@ abstract class Tests {
     private static final Class<?> ARGUMENT = IllegalArgumentException.class;
     private static final Class<?> STATE = IllegalStateException.class;
 
-    private int promise;
+    private String about = "";
     private int checks;
     private int wrong;
 
     void promise(int number, Runnable test) {
-        promise = number;
+        test("promise " + number, test);
+    }
+
+    void test(String name, Runnable test) {
+        about = name;
         int before = checks;
         try {
             test.run();
@@ -26,9 +30,9 @@ abstract class Tests {
         }
     }
 
-    private void tell(String text) {
+    void tell(String text) {
         wrong++;
-        System.out.println("promise " + promise + ": " + text);
+        System.out.println(about + ": " + text);
     }
 
     void is(Object got, Object due) {
@@ -38,11 +42,10 @@ abstract class Tests {
         }
     }
 
-    /** The call throws just that, and what the office then tells of itself is what it told before. */
+    /** The call throws just that, and all that the office can be asked is what it was before. */
     private void throwsIt(Witnesshall hall, Class<?> due, Call call) {
         checks++;
-        long before = hall.digest();
-        String text = hall.sheetText();
+        String before = whole(hall);
         try {
             Object got = call.answer();
             tell("answered " + got + ", due is " + due.getSimpleName() + " (" + caller() + ")");
@@ -51,9 +54,40 @@ abstract class Tests {
                 tell("threw " + e + ", due is " + due.getSimpleName() + " (" + caller() + ")");
             }
         }
-        if (hall.digest() != before || !hall.sheetText().equals(text)) {
+        if (!whole(hall).equals(before)) {
             tell("an exception changed something (" + caller() + ")");
         }
+    }
+
+    /** The call answers just that, and all that the office can be asked is what it was before. */
+    void isQuietly(Witnesshall hall, Call call, Object due) {
+        String before = whole(hall);
+        is(call.answer(), due);
+        if (!whole(hall).equals(before)) {
+            tell("something was changed (" + caller() + ")");
+        }
+    }
+
+    /** All that can be asked of an office without changing it. */
+    static String whole(Witnesshall hall) {
+        StringBuilder all = new StringBuilder();
+        for (int place = 0; place < 10; place++) {
+            all.append(hall.desk(place, 36)).append(' ');
+        }
+        all.append(hall.sheetText()).append(' ').append(hall.sheetText().isEmpty() ? "" : hall.fault());
+        for (int what = 0; what <= 9; what++) {
+            all.append(' ').append(hall.count(what));
+        }
+        for (int paper = 0; paper < hall.count(0); paper++) {
+            all.append('\n').append(hall.paper(paper)).append(' ').append(hall.ofPaper(paper, 2));
+        }
+        for (int chain = 0; chain < hall.count(6); chain++) {
+            all.append('\n');
+            for (int k = 0; k < hall.ofChain(chain, 0); k++) {
+                all.append(hall.link(chain, k)).append(' ');
+            }
+        }
+        return all.append('\n').append(hall.digest()).toString();
     }
 
     void noIndex(Witnesshall hall, Call call) {
@@ -75,6 +109,14 @@ abstract class Tests {
             }
         }
         return "";
+    }
+
+    int checks() {
+        return checks;
+    }
+
+    int wrong() {
+        return wrong;
     }
 
     void end() {
