@@ -274,20 +274,11 @@ final class DeskSentences extends Sentences {
     /** The first base, and the first pair of P and Q, though later ones would do as well. */
     private void firstFound() {
         Witnesshall x = office();
-        x.put(0, 91);
-        is(x.round(0, 3), 2);
-        is(x.round(0, 4), 2);
-        is(found(x, 2, 91), "91 no root 27");
-        is(faultOf(x, 2, 91, 64), NONE);
-        is(found(x, 3, 2501), "2501 no lucas 2 -1");
-        is(faultOf(x, 3, 2501, 2, -1), NONE);
-        int later = 0;
-        for (int p = 2; p <= 3; p++) {
-            for (int q = -3; q <= 3; q++) {
-                later += faultOf(x, 3, 2501, p, q) == NONE ? 1 : 0;
-            }
-        }
-        is(later >= 1, true);
+        is(found(x, 2, 85), "85 no root 16");
+        is(x.round(0, 33), 2);
+        is(faultOf(x, 2, 85, 69), NONE);
+        is(found(x, 3, 703), "703 no lucas 1 2");
+        is(faultOf(x, 3, 703, 3, -3), NONE);
     }
 
     // ---- part 1
@@ -469,7 +460,9 @@ final class DeskSentences extends Sentences {
                 x.put(1, m);
                 boolean isThere = big(a).gcd(big(m)).equals(ONE);
                 is(inverseOf(a, m) != NOTHING, isThere);
-                if (!isThere) {
+                if (isThere) {
+                    is(x.inverse(3, 0, 1) >= 0, true);
+                } else {
                     isQuietly(x, () -> x.inverse(2, 0, 1), NOTHING);
                 }
             }
@@ -592,11 +585,13 @@ final class DeskSentences extends Sentences {
 
     private void modOfZero() {
         Witnesshall x = office();
-        x.put(0, 5);
         x.put(2, 2);
         x.put(3, 77);
         for (BigInteger m : new BigInteger[] {BigInteger.ZERO, ONE.negate(), big(-7), LOWEST}) {
             lay(x, 1, m);
+            x.put(0, 1);
+            isQuietly(x, () -> x.inverse(3, 0, 1), NOTHING);
+            x.put(0, 5);
             isQuietly(x, () -> x.work(3, 5, 0, 1), NOTHING);
             isQuietly(x, () -> x.power(3, 0, 2, 1), NOTHING);
             isQuietly(x, () -> x.inverse(3, 0, 1), NOTHING);
@@ -1288,11 +1283,12 @@ final class DeskSentences extends Sentences {
     private void numberOfEach() {
         Witnesshall x = office();
         for (int place = 0; place <= 9; place++) {
-            x.put(place, place - 4);
+            x.put(place, 3 * place - 13);
         }
         for (int place = 0; place <= 9; place++) {
-            is(x.number(place, 0), Integer.signum(place - 4));
-            is(x.number(place, 1), length(big(place - 4)));
+            is(x.number(place, 0), Integer.signum(3 * place - 13));
+            is(x.number(place, 1), length(big(3 * place - 13)));
+            is(x.number(place, 3), Math.floorMod(3 * place - 13, 1000003));
         }
     }
 

@@ -172,13 +172,16 @@ final class PaperSentences extends Sentences {
     }
 
     private void held() {
-        Witnesshall x = decided(15);
-        is(x.ofPaper(0, 2), TRUSTED);
-        x.withdraw(0);
-        is(x.ofPaper(0, 2), WITHDRAWN);
-        x.restore(0);
-        is(x.ofPaper(0, 2), TRUSTED);
-        noState(x, () -> x.restore(0));
+        Witnesshall x = decided(15, 7);
+        for (int i = 0; i < 2; i++) {
+            int paper = i;
+            is(x.ofPaper(paper, 2), TRUSTED);
+            x.withdraw(paper);
+            is(x.ofPaper(paper, 2), WITHDRAWN);
+            x.restore(paper);
+            is(x.ofPaper(paper, 2), TRUSTED);
+            noState(x, () -> x.restore(paper));
+        }
     }
 
     /** Whether the paper becomes LOOSE when the paper for that number is withdrawn. */
@@ -337,6 +340,15 @@ final class PaperSentences extends Sentences {
         is(y.ofPaper(2, 2), LOOSE);
         is(y.under(3), "2 7");
         is(y.ofPaper(3, 4), 1);
+        Witnesshall z = decided(2, 3, 5);
+        filed(z, 9, 11, 2, 5);
+        filed(z, 10, 11, 1, -4, 2, 3);
+        filed(z, 8, 23, 5, 2, 11);
+        is(z.under(5), "2 5 11");
+        z.withdraw(2);
+        is(z.ofPaper(3, 2), LOOSE);
+        is(z.under(5), "2 3 11");
+        is(z.ofPaper(5, 4), 2);
     }
 
     private void underTrusted() {
@@ -366,6 +378,11 @@ final class PaperSentences extends Sentences {
             is(y.ofPaper(k, 4), k);
             is(y.ofPaper(k, 5), k);
         }
+        Witnesshall w = decided(2, 3, 11);
+        filed(w, 8, 7, 3, 2, 3);
+        is(sought(w, 8, 463), 4);
+        is(w.paper(4), "463 yes full 3 2 3 7 11");
+        is(w.ofPaper(4, 4), 2);
         Witnesshall z = withTwoOfSeven();
         z.withdraw(2);
         filed(z, 9, 59, 2, 29);
@@ -486,6 +503,11 @@ final class PaperSentences extends Sentences {
     }
 
     private void withdrawAgain() {
+        Witnesshall loose = withTwoOfSeven();
+        loose.withdraw(0);
+        is(loose.ofPaper(4, 2), LOOSE);
+        is(loose.withdraw(4), 1);
+        noState(loose, () -> loose.withdraw(4));
         Witnesshall x = decided(2, 3);
         x.withdraw(0);
         noState(x, () -> x.withdraw(0));
@@ -705,7 +727,7 @@ final class PaperSentences extends Sentences {
 
     private void underTold() {
         Witnesshall x = office();
-        for (int n : new int[] {113, 79, 7, 2}) {
+        for (int n : new int[] {113, 4, 79, 6, 7, 2}) {
             x.decide(n);
         }
         int paper = x.decide(999983);
@@ -919,6 +941,7 @@ final class PaperSentences extends Sentences {
         is(x.span(8, 11, 4), 0);
         is(x.span(5, 10, 4), 2);
         is(x.span(8, 16, 4), 2);
+        is(x.span(2, 13, 4), 4);
         x.withdraw(3);
         is(x.span(3, 11, 4), 2);
         x.withdraw(2);

@@ -536,6 +536,7 @@ final class RoundSentences extends Sentences {
         is(x.passer(2040), 2047);
         x.base(3);
         is(x.passer(2040), NONE);
+        is(withBases(3, 2).passer(2040), NONE);
         x.drop(1);
         x.base(4);
         is(x.passer(2040), 2047);

@@ -286,6 +286,8 @@ final class RuleSentences extends Sentences {
     private void ruleOfRoot() {
         Witnesshall x = office();
         is(found(x, 2, 341), "341 no root 32");
+        is(found(x, 2, 1729), "1729 no root 1065");
+        is(x.round(0, 3), 2);
         is(found(x, 2, 91), "91 no root 27");
         is(found(x, 2, 15), "15 no root 4");
         is(found(x, 2, 123), "123 no root 40");

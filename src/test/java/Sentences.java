@@ -1,4 +1,6 @@
 import java.math.BigInteger;
+import java.util.ArrayList;
+import java.util.List;
 
 /** Tests of single sentences of the document, each told by its words; words that do not stand there are told as wrong. */
 abstract class Sentences extends Tests {
@@ -12,6 +14,7 @@ abstract class Sentences extends Tests {
 
     private final Document document;
     private final String only;
+    private final List<String> names = new ArrayList<>();
 
     /** With a text in only, just the tests are run whose words hold it. */
     Sentences(Document document, String only) {
@@ -21,8 +24,14 @@ abstract class Sentences extends Tests {
 
     abstract void all();
 
+    List<String> names() {
+        return names;
+    }
+
     void sentence(String section, String words, Runnable test) {
-        if (!(section + ": " + words).contains(only)) {
+        String name = section + ": " + words;
+        names.add(name);
+        if (!name.contains(only)) {
             return;
         }
         test(section + ", \"" + words + "\"", () -> {

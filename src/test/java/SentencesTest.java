@@ -1,4 +1,5 @@
 import java.nio.file.Path;
+import java.util.ArrayList;
 import java.util.List;
 
 /**
@@ -6,19 +7,37 @@ import java.util.List;
  * that has no test. With an argument, just the tests are run whose words hold it.
  */
 public final class SentencesTest {
+    private static final String NO_TEST = "\n";
+
     private SentencesTest() {
     }
 
+    private static Sentences[] all(Document document, String only) {
+        return new Sentences[] {new DeskSentences(document, only), new RoundSentences(document, only),
+            new SheetSentences(document, only), new PaperSentences(document, only), new RuleSentences(document, only),
+            new ChainSentences(document, only), new ThrowSentences(document, only)};
+    }
+
+    private static Document document() {
+        return new Document(Path.of("../shared/DOC.md"));
+    }
+
+    /** The section and the words of each sentence that has a test. */
+    static List<String> names() {
+        List<String> names = new ArrayList<>();
+        for (Sentences sentences : all(document(), NO_TEST)) {
+            sentences.all();
+            names.addAll(sentences.names());
+        }
+        return names;
+    }
+
     /** Runs the tests whose words hold that; tells how many are wrong, and -1 if there are none. */
-    static int wrong(String only) {
-        Document document = new Document(Path.of("../shared/DOC.md"));
-        Sentences[] all = {new DeskSentences(document, only), new RoundSentences(document, only),
-            new SheetSentences(document, only), new PaperSentences(document, only),
-            new RuleSentences(document, only), new ChainSentences(document, only),
-            new ThrowSentences(document, only)};
+    public static int wrong(String only) {
+        Document document = document();
         int checks = 0;
         int wrong = 0;
-        for (Sentences sentences : all) {
+        for (Sentences sentences : all(document, only)) {
             sentences.all();
             checks += sentences.checks();
             wrong += sentences.wrong();

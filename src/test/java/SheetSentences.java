@@ -214,6 +214,8 @@ final class SheetSentences extends Sentences {
     private void fromLeft() {
         Witnesshall x = decided(2, 5);
         is(faultOf(x, 0, 3), 0);
+        is(faultOf(x, 1, 4, 2), 0);
+        is(faultOf(x, 1, 8, 1, 1), 0);
         is(faultOf(x, 0, 15, 4, 4), 1);
         is(faultOf(x, 3, 21, 101, 101, 101), 1);
         is(faultOf(x, 3, 21, 1, 101, 101), 2);
@@ -416,6 +418,10 @@ final class SheetSentences extends Sentences {
         is(faultOf(x, 3, 85, 1, -3), NONE);
         is(faultOf(x, 3, 85, 86, -3), NONE);
         is(faultOf(x, 3, 85, 171, -3), 1);
+        is(faultOf(x, 3, 35333, 1, -101), 2);
+        is(faultOf(x, 3, 703, 1, 101), 2);
+        is(faultOf(x, 3, 1649, 101, 1), 1);
+        is(faultOf(x, 3, 27, 101, -1), 1);
     }
 
     private static BigInteger lucasAt(int p, int q, int k, int n) {
@@ -754,6 +760,10 @@ final class SheetSentences extends Sentences {
         is(faultOf(x, 10, 7, 1, -1, 2), NONE);
         is(faultOf(x, 10, 7, 1, -1 + 105, 2), 2);
         is(faultOf(x, 10, 7, 1 + 105, -1, 2), 1);
+        is(faultOf(x, 10, 13, 1, -101, 7), 2);
+        is(faultOf(x, 10, 7, 1, 101, 2), 2);
+        is(faultOf(x, 10, 13, 101, 1, 7), 1);
+        is(faultOf(x, 10, 7, 101, -1, 2), 1);
     }
 
     private void plusRow() {
@@ -772,6 +782,7 @@ final class SheetSentences extends Sentences {
         }
         is(faultOf(x, 10, 7, 2, 1), 2);
         is(faultOf(x, 10, 7, 1, 7), 2);
+        is(faultOf(x, 10, 7, 7, 7, 2), 2);
         is(faultOf(x, 10, 7, 1, 2), 2);
     }
 

@@ -181,9 +181,17 @@ final class ThrowSentences extends Sentences {
         calls.add(x -> x.accuse(3, 3));
         calls.add(x -> x.grow(0, false));
         throwAll(nearlyFull(150), nearlyFull(150), calls);
+        throwAll(withHeld(), withHeld(), List.of(x -> x.file(), x -> x.restore(0), x -> x.write(10)));
         Witnesshall none = office();
         noState(none, () -> none.undo());
         is(isTwin(none, office()), true);
+    }
+
+    /** A sheet without a FAULT, of a number that has a paper of its kind. */
+    private static Witnesshall withHeld() {
+        Witnesshall x = decided(15);
+        faultOf(x, 0, 15, 5);
+        return x;
     }
 
     private static boolean isTwin(Witnesshall x, Witnesshall twin) {
