@@ -989,6 +989,16 @@ final class ChainSentences extends Sentences {
         x.strike();
         x.decide(4);
         is(x.digest(), summed(x, 1000, 2).longValue());
+        for (int value : new int[] {0, -1, 10, -10, MIN, 0}) {
+            x.writeValue(value);
+            is(x.digest(), summed(x, 1000, 2).longValue());
+        }
+        x.put(0, 0);
+        x.sheet(0, 0);
+        is(x.digest(), summed(x, 1000, 2).longValue());
+        x.undo();
+        x.decide(999999);
+        is(x.digest(), summed(x, 1000, 2).longValue());
     }
 
     private void digestTold() {

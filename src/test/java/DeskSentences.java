@@ -796,6 +796,42 @@ final class DeskSentences extends Sentences {
         x.put(4, 6);
         x.work(4, 2, 4, 4);
         lies(x, 4, 36);
+        longDivision(x);
+    }
+
+    /** Numbers of few and of nearly all bits, where a digit of the quotient is easily guessed too great. */
+    private void longDivision(Witnesshall x) {
+        int[] digits = {0, 1, (1 << 29) - 1, 1 << 29, (1 << 29) + 1, (1 << 30) - 2, (1 << 30) - 1};
+        List<BigInteger> dividends = new ArrayList<>();
+        List<BigInteger> divisors = new ArrayList<>();
+        for (int high : digits) {
+            for (int middle : digits) {
+                for (int low : digits) {
+                    dividends.add(joined(joined(big(high), middle), low));
+                    dividends.add(joined(joined(joined(big(high), middle), low), 7));
+                    divisors.add(joined(joined(big(high), middle), low));
+                }
+                divisors.add(joined(big(high), middle));
+            }
+        }
+        int wrong = 0;
+        for (int i = 0; i < divisors.size(); i += 3) {
+            if (divisors.get(i).signum() != 0) {
+                lay(x, 1, divisors.get(i));
+                for (BigInteger dividend : dividends) {
+                    lay(x, 0, dividend);
+                    x.work(2, 3, 0, 1);
+                    x.work(3, 4, 0, 1);
+                    BigInteger[] due = dividend.divideAndRemainder(divisors.get(i));
+                    wrong += at(x, 2).equals(due[0]) && at(x, 3).equals(due[1]) ? 0 : 1;
+                }
+            }
+        }
+        is(wrong, 0);
+    }
+
+    private static BigInteger joined(BigInteger high, int low) {
+        return high.shiftLeft(30).add(big(low));
     }
 
     private void workWhat() {
@@ -1356,5 +1392,30 @@ final class DeskSentences extends Sentences {
             }
             is(x.compare(1, 1), 0);
         }
+        zeros();
+    }
+
+    /** 0 is 0, whichever way it was made of numbers below 0. */
+    private void zeros() {
+        Witnesshall x = office();
+        x.put(1, -5);
+        x.put(2, 5);
+        x.put(3, -6);
+        x.work(4, 0, 1, 2);
+        x.work(5, 1, 1, 1);
+        x.work(6, 2, 1, 0);
+        x.work(7, 3, 1, 3);
+        x.work(8, 4, 1, 2);
+        x.work(9, 5, 1, 2);
+        for (int place = 4; place <= 9; place++) {
+            is(x.compare(place, 0), 0);
+            is(x.compare(0, place), 0);
+            is(x.compare(place, 1), 1);
+            lies(x, place, 0);
+        }
+        x.work(4, 6, 0, 4);
+        is(x.compare(4, 0), 0);
+        x.shift(4, 7, -3);
+        is(x.compare(4, 0), 0);
     }
 }

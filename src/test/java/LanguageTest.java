@@ -8,10 +8,21 @@ import java.util.regex.Pattern;
 /** What of ../shared/LANGUAGE.md can be seen from the text of the class, and its face. Runs from the top of the checkout. */
 public final class LanguageTest {
     private static final Path SOURCE = Path.of("src/main/java/Witnesshall.java");
-    private static final String[] FORBIDDEN = {"^import ", "^package ", "\\btry\\b", "\\bcatch\\b", "\\bfinally\\b",
-        "\\bassert\\b", "\\bsynchronized\\b", "\\binstanceof\\b", "->", "::", "\\bprotected\\b", "\\bwhile\\b",
-        "\\bSystem\\.", "\\bMath\\.", "\\bInteger\\.", "\\bString\\.", "Exact\\b", "\\bBigInteger\\b", "\\bthread",
-        "\"\\s*\\+|\\+\\s*\"", "\\bdouble\\b|\\bfloat\\b", "^    static (?!final)", "\\bvar\\b"};
+    /** The number of a rule, and what it leaves out. */
+    private static final String[][] FORBIDDEN = {
+        {"2", "::"}, {"2", "^(?!.*\\b(case .*|default )->).*->"}, {"2", "^package "},
+        {"4", "^import (?!java\\.util\\.(ArrayList|List|Arrays|Iterator|NoSuchElementException);)"},
+        {"4", "\\bjava\\.(?!util\\.(ArrayList|List|Arrays|Iterator|NoSuchElementException)\\b)"},
+        {"4", "\\bSystem\\.(?!arraycopy\\b)"}, {"4", "\\bString\\.|\\bCharacter\\.|\\bObject\\b|\\bBoolean\\.|\\bDouble\\b"},
+        {"4", "Exact\\b"}, {"4", "\\b(BigInteger|BigDecimal|Thread|Runnable|Random|Scanner|Optional|HashMap|HashSet)\\b"},
+        {"4", "\\bMath\\.(sqrt|cbrt|pow|log|log10|exp|floor|ceil|round|random|sin|cos|tan|hypot|rint)\\("},
+        {"4", "\\.(stream|format|printf|println)\\("},
+        {"5", "\\bstatic (?!final |class |abstract |interface |enum |record |<|[\\w.<>\\[\\]]+ \\w+\\()"},
+        {"6", "\\b(finally|assert|synchronized|volatile|native|transient|strictfp)\\b"},
+        {"6", "\\bcatch\\b.*\\b(ArrayIndex\\w*|StringIndex\\w*|NullPointer\\w*|ClassCast\\w*|NegativeArray\\w*|ArrayStore\\w*|Exception|Throwable|Error|\\w+Error)\\b"},
+        {"6", "\\bextends \\w*(Exception|Error|Throwable)\\b"}, {"6", "\\b(getMessage|printStackTrace|getCause|hashCode|getClass)\\b"},
+        {"6", "\\btry \\("}, {"1", "\\bprotected\\b"}, {"10", "\"\\s*\\+|\\+\\s*\""},
+        {"13", "\\b(currentTimeMillis|nanoTime|getenv|getProperty|exit)\\b"}};
     private static final String[] FACE = {"int put(int, int)", "int make(int, int, int, int)", "int work(int, int, int, int)",
         "int root(int, int)", "int power(int, int, int, int)", "int inverse(int, int, int)", "int shift(int, int, int)",
         "int lucas(int, int, int, int, int)", "int fetch(int, int, int)", "int take(int, int, int)", "int sheet(int, int)",
@@ -37,9 +48,9 @@ public final class LanguageTest {
             if (line.strip().startsWith("/**") || line.strip().startsWith("//")) {
                 continue;
             }
-            for (String word : FORBIDDEN) {
-                if (Pattern.compile(word).matcher(line).find()) {
-                    tell("line " + (i + 1) + " has " + word + ": " + line.strip());
+            for (String[] rule : FORBIDDEN) {
+                if (Pattern.compile(rule[1]).matcher(line).find()) {
+                    tell("rule " + rule[0] + ", line " + (i + 1) + ": " + line.strip());
                 }
             }
         }

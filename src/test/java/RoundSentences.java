@@ -303,6 +303,9 @@ final class RoundSentences extends Sentences {
         x.drop(0);
         noState(x, () -> x.base(3));
         is(x.base(2), 2);
+        x.drop(1);
+        is(x.base(2), 2);
+        noState(x, () -> x.base(2));
     }
 
     private void noBases() {
@@ -538,8 +541,11 @@ final class RoundSentences extends Sentences {
         is(x.passer(2040), NONE);
         is(withBases(3, 2).passer(2040), NONE);
         x.drop(1);
+        is(x.passer(2040), 2047);
         x.base(4);
         is(x.passer(2040), 2047);
+        is(withBases(2, 4, 8, 16, 32, 64).passer(2040), 2047);
+        is(withBases(2, 4, 8, 16, 32, 3).passer(2040), NONE);
         is(office().passer(25), 25);
         is(office().passer(23), 25);
         for (int base : new int[] {7, 18, 32}) {
@@ -596,8 +602,13 @@ final class RoundSentences extends Sentences {
         is(x.passing(2045, 2), 1);
         is(x.passing(2046, 1), 1);
         is(x.passing(2047, 1), 1);
+        is(withBases(2, 4, 8, 16, 32, 64).passing(2046, 1), 1);
+        is(withBases(2, 4, 8, 16, 32, 3).passing(2046, 1), 0);
         x.base(3);
         is(x.passing(2046, 1), 0);
+        x.drop(1);
+        is(x.passing(2046, 1), 1);
+        x.base(3);
         for (int from = 5; from < 300; from += 7) {
             int due = 0;
             for (int i = 0; i < 60; i++) {
