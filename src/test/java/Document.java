@@ -27,8 +27,21 @@ final class Document {
     }
 
     private final Map<String, Section> sections = new LinkedHashMap<>();
+    private final boolean isThere;
 
+    /** Where the document does not lie beside the checkout, its words are not looked up. */
     Document(Path file) {
+        isThere = Files.exists(file);
+        if (isThere) {
+            divide(file);
+        }
+    }
+
+    boolean isThere() {
+        return isThere;
+    }
+
+    private void divide(Path file) {
         Section section = new Section();
         for (String line : read(file)) {
             String plain = line.replace("`", "").strip();
@@ -65,14 +78,14 @@ final class Document {
     boolean name(String section, String words) {
         Section found = sections.get(section);
         int at = found == null ? -1 : found.text.indexOf(words);
-        boolean isThere = at >= 0;
+        boolean isSaid = at >= 0 || !isThere;
         while (at >= 0) {
             for (int i = at; i < at + words.length(); i++) {
                 found.isNamed[i] = true;
             }
             at = found.text.indexOf(words, at + 1);
         }
-        return isThere;
+        return isSaid;
     }
 
     /** What no test has named: sentences of the description, bounds of arguments, what is thrown, what is returned. */

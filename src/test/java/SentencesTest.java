@@ -46,6 +46,7 @@ public final class SentencesTest {
             List<String> unnamed = document.unnamed();
             unnamed.forEach(words -> System.out.println("without a test: " + words));
             wrong += unnamed.size();
+            System.out.print(document.isThere() ? "" : "the document is not there: its words are not looked up\n");
         }
         System.out.println(checks + " checks, " + wrong + " wrong");
         return checks == 0 ? -1 : wrong;
